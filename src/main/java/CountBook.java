@@ -266,9 +266,6 @@ public final class CountBook {
     // ---- hands
 
     public int hand(int syllable, int v) {
-        if (syllable < 0 || syllable >= Hands.SYLLABLES || v < 0 || v > Hands.EITHER) {
-            return BAD;
-        }
         return hands.change(syllable, v);
     }
 
@@ -917,7 +914,6 @@ public final class CountBook {
 
     /** Which hand each syllable has, and how a phrase is played with the fewest strains. */
     private static final class Hands {
-        static final int SYLLABLES = 8;
         static final int EITHER = 3;
 
         private final int[] handOf = {EITHER, EITHER, EITHER, EITHER, EITHER, EITHER, EITHER, EITHER};
@@ -928,7 +924,7 @@ public final class CountBook {
         private final int[] fewestByRight = new int[Phrase.MOST_SYLLABLES];
 
         int change(int syllable, int v) {
-            if (syllable < 0 || syllable >= handOf.length) {
+            if (syllable < 0 || syllable >= handOf.length || v < 0 || v > EITHER) {
                 return BAD;
             }
             int was = handOf[syllable];

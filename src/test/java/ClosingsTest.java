@@ -19,6 +19,7 @@ public final class ClosingsTest {
         }
         theGridIsTold();
         gapsGoUpTo96();
+        theLastPairIsFound();
         wrongOnesAreRefused();
         CHECK.end("ClosingsTest");
     }
@@ -107,6 +108,19 @@ public final class ClosingsTest {
         CHECK.due("pairs by 18", x.doubles(0, 0, 40, 0), 36);
         CHECK.due("the least", x.least(0, 0, 40, 0), 0);
         CHECK.due("the least, LAST", x.least(0, 0, 41, 0), CountBook.NONE);
+    }
+
+    private static void theLastPairIsFound() {
+        CountBook x = new CountBook();
+        for (int i = 0; i < 12; i++) {
+            x.limb(0, 0, 18);
+        }
+        Check.say(x, 0, "a");
+        // 9 * 24 ticks of syllables and 6 * 96 + 2 * 96 of gaps: only the widest gaps go so far.
+        x.grid(24);
+        CHECK.due("the only pair", x.doubles(0, 0, 10, 2592 - 216 - 768), 1);
+        CHECK.due("the least is the last", x.least(0, 0, 10, 2592 - 216 - 768), 96096);
+        CHECK.due("a tick earlier", x.least(0, 0, 10, 2592 - 216 - 769), CountBook.NONE);
     }
 
     private static void wrongOnesAreRefused() {

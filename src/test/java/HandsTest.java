@@ -6,8 +6,11 @@ public final class HandsTest {
 
     public static void main(String[] args) {
         Random random = new Random(25);
+        // One object goes through half the runs: nothing of an earlier call may show in a later one.
+        CountBook used = new CountBook();
         for (int run = 0; run < 3000; run++) {
-            allPlays(random, 1 + random.nextInt(9));
+            allPlays(new CountBook(), random, 1 + random.nextInt(9));
+            allPlays(used, random, 1 + random.nextInt(9));
         }
         longRows();
         handsAreTold();
@@ -15,8 +18,7 @@ public final class HandsTest {
         CHECK.end("HandsTest");
     }
 
-    private static void allPlays(Random random, int length) {
-        CountBook x = new CountBook();
+    private static void allPlays(CountBook x, Random random, int length) {
         int[] hands = new int[9];
         for (int syllable = 0; syllable < 8; syllable++) {
             hands[syllable] = random.nextInt(4);

@@ -126,6 +126,9 @@ public final class SheetsTest {
         for (int what = 0; what < due.length; what++) {
             CHECK.due("count(" + what + ")", x.count(what), due[what]);
         }
+        x.trim(0);
+        Check.say(x, 3, "-");
+        CHECK.due("count(1) with one rest", x.count(1), 3);
         x.sheet(0, 60);
         x.clear(3);
         CHECK.due("count(5) again", x.count(5), 2);

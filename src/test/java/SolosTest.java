@@ -8,6 +8,7 @@ public final class SolosTest {
         partsKeepTheirTicks();
         soloAgainstPlainSums();
         homeIsTheLeastGap();
+        landingsTellTheGaps();
         cyclesAreAsked();
         CHECK.end("SolosTest");
     }
@@ -103,6 +104,17 @@ public final class SolosTest {
         CHECK.due("home, its own gap not told", x.home(0), 5);
         x.limb(1, 1, 18);
         CHECK.due("home may be above 96", x.home(1), 216 - 67);
+    }
+
+    private static void landingsTellTheGaps() {
+        CountBook x = new CountBook();
+        x.limb(0, 1, 2);
+        Check.say(x, 0, "a");
+        int[][] parts = {{8, 1, 21, 1}, {8, 1, 0, 1}, {8, 7, 0, 2}, {4, 1, 0, 2}, {4, 2, 54, 3}, {1, 9, 96, 4}};
+        for (int[] part : parts) {
+            x.join(0, part[0], part[1], part[2]);
+            CHECK.due("landings after a part", x.landings(0), part[3]);
+        }
     }
 
     private static void cyclesAreAsked() {

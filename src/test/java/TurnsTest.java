@@ -4,6 +4,8 @@ import java.util.Random;
 /** Promises 21 and 22: ways, cuts; against plain counting with numbers of any size. */
 public final class TurnsTest {
     private static final Check CHECK = new Check();
+    // One object goes through all runs: nothing of an earlier call may show in a later one.
+    private static final CountBook USED = new CountBook();
 
     public static void main(String[] args) {
         Random random = new Random(22);
@@ -47,7 +49,11 @@ public final class TurnsTest {
     }
 
     private static void asks(String theme, String turn) {
-        CountBook x = new CountBook();
+        asks(new CountBook(), theme, turn);
+        asks(USED, theme, turn);
+    }
+
+    private static void asks(CountBook x, String theme, String turn) {
         Check.say(x, 1, theme);
         x.sheet(1, turn.length());
         for (int i = 0; i < turn.length(); i++) {
