@@ -108,11 +108,8 @@ public final class CountBook {
 
     public int phrase(int phrase) {
         Phrase p = phraseAt(phrase);
-        if (p == null) {
-            // Asked ahead of the reading: the tape has not been read, so it stays.
-            return BAD;
-        }
-        int answer = tape.readInto(p);
+        int answer = p == null ? BAD : tape.readInto(p);
+        // Whatever is answered, BAD too, the tape is used up.
         tape.size = 0;
         return answer;
     }

@@ -165,14 +165,19 @@ public final class PhrasesTest {
             CHECK.due("count(4) after " + text, x.count(4), 0);
             CHECK.due("an empty tape", x.phrase(0), -100);
         }
-        // A phrase that is not there is asked for first: the tape has not been read.
-        Check.write(x, "abcd");
-        CHECK.due("phrase(6)", x.phrase(6), CountBook.BAD);
-        CHECK.due("phrase(-1)", x.phrase(-1), CountBook.BAD);
-        CHECK.due("count(4)", x.count(4), 4);
-        CHECK.due("phrase(0)", x.phrase(0), 4);
-        Check.write(x, ")");
-        CHECK.due("BAD ahead of a fault", x.phrase(6), CountBook.BAD);
+        int[] noPhrases = {-1, 6, Integer.MIN_VALUE, Integer.MAX_VALUE};
+        for (int phrase : noPhrases) {
+            Check.write(x, "abcd");
+            CHECK.due("phrase(" + phrase + ")", x.phrase(phrase), CountBook.BAD);
+            CHECK.due("count(4) after phrase(" + phrase + ")", x.count(4), 0);
+            CHECK.due("feed after it", x.feed(0, 0, 0), 12);
+            CHECK.due("BAD ahead of a fault", x.phrase(phrase), CountBook.BAD);
+            CHECK.due("trim(1) of what is used up", x.trim(1), CountBook.BAD);
+        }
+        CHECK.due("BAD on an empty tape", x.phrase(6), CountBook.BAD);
+        Check.write(x, "99a");
+        CHECK.due("BAD ahead of FULL", x.phrase(6), CountBook.BAD);
+        CHECK.due("count(2): no phrase changed", x.count(2), 3);
     }
 
     private static void aRefusedPhraseStays() {
