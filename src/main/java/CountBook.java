@@ -179,7 +179,7 @@ public final class CountBook {
         int wanting = wantingIn(cycle, phrase, how, tick, SAID_IN_DOUBLE);
         int length = lengthOf(cycle);
         int pairs = 0;
-        for (int g = 0; g <= WIDEST_GAP; g += gridTicks) {
+        for (int g = 0; g <= WIDEST_GAP; g += Math.max(1, gridTicks)) {
             pairs += gapsFilling(lessGaps(wanting, 6 * g, length), length);
         }
         return pairs;
@@ -194,7 +194,7 @@ public final class CountBook {
         int length = lengthOf(cycle);
         int best = NONE;
         int bestTogether = 2 * WIDEST_GAP + 1;
-        for (int g = 0; g <= WIDEST_GAP; g += gridTicks) {
+        for (int g = 0; g <= WIDEST_GAP; g += Math.max(1, gridTicks)) {
             int h = gapFilling(lessGaps(wanting, 6 * g, length), length, 0);
             if (h != NONE && g + h < bestTogether) {
                 best = 1000 * g + h;
