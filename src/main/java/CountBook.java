@@ -216,11 +216,13 @@ public final class CountBook {
     // ---- shapes, turns
 
     public int shape(int phrase, int d, int what) {
-        int refused = shapeRefusal(phrase, d, what);
-        if (refused != FINE) {
-            return refused;
-        }
         Phrase p = phraseAt(phrase);
+        if (p == null || !isStep(d) || !isShape(what)) {
+            return BAD;
+        }
+        if (p.size == 0) {
+            return NO;
+        }
         int rows = shapeRows(p, d, what);
         int all = 0;
         for (int row = 0; row < rows; row++) {
@@ -230,14 +232,13 @@ public final class CountBook {
     }
 
     public int shaped(int phrase, int d, int what, int i) {
-        if (i < 0) {
+        Phrase p = phraseAt(phrase);
+        if (p == null || !isStep(d) || !isShape(what) || i < 0) {
             return BAD;
         }
-        int refused = shapeRefusal(phrase, d, what);
-        if (refused != FINE) {
-            return refused;
+        if (p.size == 0) {
+            return NO;
         }
-        Phrase p = phraseAt(phrase);
         int rows = shapeRows(p, d, what);
         int left = i;
         for (int row = 0; row < rows; row++) {
@@ -251,13 +252,21 @@ public final class CountBook {
     }
 
     public int ways(int phrase, int sheet) {
-        int refused = turnRefusal(phrase, sheet);
-        return refused != FINE ? refused : turns.allWays(phraseAt(phrase), sheetAt(sheet));
+        Phrase p = phraseAt(phrase);
+        Sheet h = sheetAt(sheet);
+        if (p == null || h == null) {
+            return BAD;
+        }
+        return h.isMissing() ? NOTHING : turns.allWays(p, h);
     }
 
     public int cuts(int phrase, int sheet) {
-        int refused = turnRefusal(phrase, sheet);
-        return refused != FINE ? refused : turns.fewestCuts(phraseAt(phrase), sheetAt(sheet));
+        Phrase p = phraseAt(phrase);
+        Sheet h = sheetAt(sheet);
+        if (p == null || h == null) {
+            return BAD;
+        }
+        return h.isMissing() ? NOTHING : turns.fewestCuts(p, h);
     }
 
     // ---- hands
@@ -358,12 +367,14 @@ public final class CountBook {
     }
 
     public int copy(int phrase, int from, int s, int at, int many) {
-        int refused = turnRefusal(phrase, s);
-        if (refused != FINE) {
-            return refused;
-        }
         Phrase p = phraseAt(phrase);
         Sheet h = sheetAt(s);
+        if (p == null || h == null) {
+            return BAD;
+        }
+        if (h.isMissing()) {
+            return NOTHING;
+        }
         if (!lieWithin(from, many, p.size) || !lieWithin(at, many, h.places)) {
             return INDEX;
         }
@@ -547,12 +558,12 @@ public final class CountBook {
 
     // ---- rows of shapes
 
-    private int shapeRefusal(int phrase, int d, int what) {
-        Phrase p = phraseAt(phrase);
-        if (p == null || d < 1 || d > WIDEST_STEP || what < SHRINKING || what > HOURGLASS) {
-            return BAD;
-        }
-        return p.size == 0 ? NO : FINE;
+    private static boolean isStep(int d) {
+        return d >= 1 && d <= WIDEST_STEP;
+    }
+
+    private static boolean isShape(int what) {
+        return what >= SHRINKING && what <= HOURGLASS;
     }
 
     private static int shapeRows(Phrase p, int d, int what) {
@@ -568,14 +579,6 @@ public final class CountBook {
         }
         // The hourglass comes back over the same rows, but has the narrowest once.
         return row <= lastRow ? row * d : (2 * lastRow - row) * d;
-    }
-
-    private int turnRefusal(int phrase, int sheet) {
-        Sheet h = sheetAt(sheet);
-        if (phraseAt(phrase) == null || h == null) {
-            return BAD;
-        }
-        return h.isMissing() ? NOTHING : FINE;
     }
 
     /** A row of limbs. */
